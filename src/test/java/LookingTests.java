@@ -189,6 +189,10 @@ final class LookingTests {
         chain.setVan(0, 0, 30);
         Checks.due("closed and cooled", chain.minutesLeft(2), Look.NONE);
         Checks.due("count(2)", chain.count(2), 3);
+        chain.addVan(50, 0);
+        chain.door(1, 1);
+        chain.loadPallet(1, 2, 49, 3, 0);
+        Checks.due("in another van", chain.minutesLeft(4), 4);
     }
 
     private static void farMinutes() {

@@ -220,6 +220,9 @@ final class PalletTests {
         chain = rejected(0, 1, 1);
         Checks.due("detour(7, 1)", chain.detour(7, 1), 1);
         Checks.isTrue("1 left: " + parts(chain), parts(chain).equals("1 0 0"));
+        chain = rejected(0, 1);
+        Checks.due("detour(3, 10)", chain.detour(3, 10), 10);
+        Checks.isTrue("all to the only one with a value: " + parts(chain), parts(chain).equals("0 10"));
         chain = rejected(7, 7, 7);
         Checks.due("detour(7, 8)", chain.detour(7, 8), 3);
         Checks.isTrue("2 left: " + parts(chain), parts(chain).equals("3 3 2"));
@@ -321,6 +324,13 @@ final class PalletTests {
         Checks.due("claims(1)", chain.claims(1), 500);
         Checks.due("claims(2)", chain.claims(2), 501);
         Checks.due("claims(3)", chain.claims(3), 0);
+        ColdChain first = rejected(9, 8);
+        Checks.due("a single warm minute: claims(1)", first.claims(1), 17);
+        Checks.due("a single warm minute: claims(2)", first.claims(2), 0);
+        ColdChain three = threeMinutes(22, 1, 1000);
+        three.deliver(0);
+        Checks.due("1000 * 2 / 3", three.claims(1), 666);
+        Checks.due("the rest", three.claims(2), 334);
     }
 
     private static void claimsWithDetours() {

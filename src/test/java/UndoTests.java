@@ -37,6 +37,11 @@ final class UndoTests {
         check(chain, "door", 0, () -> chain.door(0, 1));
         check(chain, "loadPallet", 0, () -> chain.loadPallet(0, 1, -5, 2, 100));
         check(chain, "pass", 1, () -> chain.pass(9));
+        check(chain, "door", 1, () -> chain.door(0, 0));
+        check(chain, "pass with a closed door", 0, () -> chain.pass(2));
+        // zone 1 comes from 4: -2, which is above the limit, and -5, which is not
+        Checks.due("closed warm minutes", chain.pallet(0, 7), 1);
+        check(chain, "door", 1, () -> chain.door(0, 1));
         check(chain, "repair", 1, () -> chain.repair(0, 1));
         check(chain, "deliver", 2, () -> chain.deliver(0));
         check(chain, "detour", 77, () -> chain.detour(1, 77));

@@ -8,6 +8,7 @@ final class DetourEdges {
     static void run() {
         detours();
         claimed();
+        claimShares();
         detour();
         claims();
     }
@@ -122,6 +123,11 @@ final class DetourEdges {
             Checks.due("accepted", chain.pallet(0, 5), 1);
             claimsAre(chain, 0, 0, 0);
             claimsAre(PalletEdges.warmed(2, 2, 0, 0, 100), 0, 0, 0);
+            ColdChain cold = PalletEdges.warmed(0, 0, 0, 0, 100);
+            claimsAre(cold, 0, 0, 0);
+            cold.deliver(0);
+            Checks.due("accepted without warm minutes", cold.pallet(0, 5), 1);
+            claimsAre(cold, 0, 0, 0);
         });
         edge.test("all falls to its cause if that is 3", "with warm minutes too, with its part", () -> {
             ColdChain chain = PalletEdges.warmed(2, 1, 1, 3, 100);
@@ -133,6 +139,10 @@ final class DetourEdges {
             none.deliver(0);
             claimsAre(none, 0, 0, 100);
         });
+    }
+
+    private static void claimShares() {
+        Edge edge = new Edge("Pallets");
         String share = "otherwise claim * (open minutes) / (warm minutes) falls to the cause 1, and the rest to the cause 2";
         edge.test(share, "open ones alone, closed ones alone", () -> {
             fallsTo(5, 0, 100, 100, 0);
@@ -196,6 +206,8 @@ final class DetourEdges {
             Look.ILLEGAL, Edge::busy, c -> c.detour(8, 0), c -> c.detour(2, 0), c -> c.detour(4, 0));
         edge.refused("ILLEGAL_STATE if one of them does not have the state 2", "together with one that has it",
             Look.ILLEGAL, Edge::busy, c -> c.detour(9, 9999), c -> c.detour(3, 1), c -> c.detour(5, 0), c -> c.detour(15, 0));
+        edge.refused("ILLEGAL_STATE if one of them does not have the state 2", "the first, the last of twelve",
+            Look.ILLEGAL, PalletEdges::twelve, c -> c.detour(1, 0), c -> c.detour(2048, 0), c -> c.detour(4095, 0));
         edge.refused("ILLEGAL_STATE if one of them does not have the state 2", "brought back a second time",
             Look.ILLEGAL, () -> {
                 ColdChain chain = rejected(1, 1);

@@ -106,8 +106,13 @@ final class Edge {
 
     /** Some 210 calls. */
     static String numbers(ColdChain chain) {
+        return chain.count(6) + " " + chain.count(7) + " " + state(chain);
+    }
+
+    /** What is saved for undo(), but for the log. */
+    static String state(ColdChain chain) {
         StringBuilder told = new StringBuilder();
-        for (int what = 0; what <= 8; what++) {
+        for (int what : new int[] {0, 1, 2, 3, 4, 5, 8}) {
             told.append(chain.count(what)).append(' ');
         }
         for (int van = 0; van < 3; van++) {
@@ -129,7 +134,7 @@ final class Edge {
         return told.toString();
     }
 
-    private static String ahead(ColdChain chain) {
+    static String ahead(ColdChain chain) {
         StringBuilder told = new StringBuilder();
         for (int pallet = 0; pallet < 12; pallet++) {
             told.append(chain.minutesLeft(pallet)).append(' ');

@@ -10,8 +10,10 @@ final class LookEdges {
         pallet();
         log();
         warm();
+        warmEntries();
         minutesLeft();
         longestOpen();
+        longestOpenPallets();
     }
 
     /** A van, added at the time 2, whose zones are as warm as the time: 1 more in each minute. */
@@ -228,6 +230,24 @@ final class LookEdges {
                 }
             }
         });
+        edge.test("Returns an entry of the log", "each van and zone has its own", () -> {
+            ColdChain chain = Edge.threeVans();
+            chain.setNumber(0, 450);
+            chain.setNumber(1, 100);
+            for (int number = 0; number < 9; number++) {
+                chain.setProbe(number / 3, number % 3, 1, 1 + number);
+            }
+            for (int van = 0; van < 3; van++) {
+                chain.door(van, 1);
+            }
+            chain.pass(1);
+            for (int number = 0; number < 9; number++) {
+                int van = number / 3;
+                int zone = number % 3;
+                Checks.due("temperature of " + number, chain.log(van, zone, 1, 0), chain.zone(van, zone, 0));
+                Checks.due("told of " + number, chain.log(van, zone, 1, 1), chain.zone(van, zone, 0) + 1 + number);
+            }
+        });
         edge.names("`van`: a van", 0, 1, Edge::busy, (c, n) -> c.log(n, 0, 4, 0));
         edge.names("`zone`: 0 to 2", 0, 2, Edge::busy, (c, n) -> c.log(1, n, 4, 0));
         edge.names("`told`: 0 the temperature, 1 the told temperature", 0, 1, Edge::busy, (c, n) -> c.log(1, 2, 4, n));
@@ -307,9 +327,13 @@ final class LookEdges {
         edge.refused("`to`: from or greater: the time of the last minute", "less than from", Look.INVALID, six,
             c -> c.warm(0, 0, 0, 4, 3, 0), c -> c.warm(0, 0, 0, 1, 0, 0), c -> c.warm(0, 0, 0, 0, -1, 0),
             c -> c.warm(0, 0, 0, Look.HIGH, Look.LOW, 0), c -> c.warm(0, 0, 0, 601, 600, 0));
+    }
+
+    private static void warmEntries() {
+        Edge edge = new Edge("Promise 21");
         edge.test("that are above the limit", "at the limit they are not", () -> {
-            Checks.due("above 7", six.make().warm(0, 2, 7, 0, 8, 0), 1);
-            Checks.due("above 8", six.make().warm(0, 2, 8, 0, 8, 0), 0);
+            Checks.due("above 7", warming(6).warm(0, 2, 7, 0, 8, 0), 1);
+            Checks.due("above 8", warming(6).warm(0, 2, 8, 0, 8, 0), 0);
             Checks.due("above -300", Look.withVan(-300, 0).warm(0, 0, -300, 0, 600, 0), 0);
             ColdChain cold = Look.withVan(-300, 0);
             cold.pass(1);
@@ -374,7 +398,7 @@ final class LookEdges {
             c -> c.minutesLeft(0), c -> c.minutesLeft(-1), c -> c.minutesLeft(11));
         edge.refused("ILLEGAL_STATE if it is not in a van", "rejected, accepted, brought back", Look.ILLEGAL, Edge::busy,
             c -> c.minutesLeft(0), c -> c.minutesLeft(1), c -> c.minutesLeft(2));
-        edge.refused("NONE if there is none", "never, only after 301 minutes", Look.NONE, () -> heated(0, 300),
+        edge.refused("NONE if there is none", "only after 301 minutes", Look.NONE, () -> heated(0, 300),
             c -> c.minutesLeft(0));
         edge.refused("NONE if there is none", "never too warm", Look.NONE, PalletEdges::fullZone, c -> c.minutesLeft(0));
         edge.test("NONE if there is none", "allowed 600 minutes", () -> {
@@ -427,6 +451,10 @@ final class LookEdges {
                     Checks.due("limit " + limit, chain.longestOpen(0), limit == 59 ? Look.NONE : 0);
                 }
             });
+    }
+
+    private static void longestOpenPallets() {
+        Edge edge = new Edge("Promise 23");
         edge.test("no pallet that is in the van", "the strictest one tells, whichever it is", () -> {
             ColdChain chain = quick(9);
             chain.loadPallet(0, 2, 0, 7, 0);

@@ -37,7 +37,7 @@ final class LookingTests {
             Checks.due("count(" + what + ")", chain.count(what), due[what]);
         }
         for (int what : new int[] {-1, 9, Look.LOW, Look.HIGH}) {
-            Look.refused(chain, "count(" + what + ")", Look.INVALID, () -> chain.count(what));
+            Edge.refuse("count(" + what + ")", Look.INVALID, Edge::busy, c -> c.count(what));
         }
     }
 
@@ -56,7 +56,7 @@ final class LookingTests {
         }
         int[][] wrong = {{-1, 0}, {2, 0}, {3, 0}, {0, -1}, {0, 4}, {Look.HIGH, 0}, {0, Look.LOW}};
         for (int[] row : wrong) {
-            Look.refused(chain, "van", Look.INVALID, () -> chain.van(row[0], row[1]));
+            Edge.refuse("van", Look.INVALID, Edge::busy, c -> c.van(row[0], row[1]));
         }
     }
 
@@ -75,7 +75,7 @@ final class LookingTests {
         int[][] wrong = {{-1, 0, 0}, {1, 0, 0}, {0, -1, 0}, {0, 3, 0}, {0, 0, -1}, {0, 0, 6},
             {Look.HIGH, Look.HIGH, Look.HIGH}};
         for (int[] row : wrong) {
-            Look.refused(chain, "zone", Look.INVALID, () -> chain.zone(row[0], row[1], row[2]));
+            Edge.refuse("zone", Look.INVALID, Edge::openVan, c -> c.zone(row[0], row[1], row[2]));
         }
     }
 
@@ -94,7 +94,7 @@ final class LookingTests {
         }
         int[][] wrong = {{-1, 0}, {1, 0}, {12, 0}, {0, -1}, {0, 11}, {Look.LOW, 0}, {0, Look.HIGH}};
         for (int[] row : wrong) {
-            Look.refused(chain, "pallet", Look.INVALID, () -> chain.pallet(row[0], row[1]));
+            Edge.refuse("pallet", Look.INVALID, () -> PalletTests.rejected(1), c -> c.pallet(row[0], row[1]));
         }
     }
 
@@ -123,12 +123,10 @@ final class LookingTests {
     }
 
     private static void refusesLogs() {
-        ColdChain chain = Look.withVan(0, 5);
-        chain.pass(5);
         int[][] wrong = {{-1, 0, 1, 0}, {1, 0, 1, 0}, {0, -1, 1, 0}, {0, 3, 1, 0}, {0, 0, 0, 0}, {0, 0, -1, 0},
             {0, 0, Look.LOW, 0}, {0, 0, 1, -1}, {0, 0, 1, 2}, {0, 0, 6, 2}, {1, 0, 6, 0}};
         for (int[] row : wrong) {
-            Look.refused(chain, "log", Look.INVALID, () -> chain.log(row[0], row[1], row[2], row[3]));
+            Edge.refuse("log", Look.INVALID, () -> Edge.at(5), c -> c.log(row[0], row[1], row[2], row[3]));
         }
     }
 
@@ -159,14 +157,13 @@ final class LookingTests {
     }
 
     private static void refusesWarms() {
-        ColdChain chain = Look.withVan(0, 5);
         int[][] wrong = {{-1, 0, 0, 0, 1, 0}, {1, 0, 0, 0, 1, 0}, {0, -1, 0, 0, 1, 0}, {0, 3, 0, 0, 1, 0},
             {0, 0, -301, 0, 1, 0}, {0, 0, 301, 0, 1, 0}, {0, 0, 0, -1, 1, 0}, {0, 0, 0, 1, 0, 0},
             {0, 0, 0, 0, -1, 0}, {0, 0, 0, 0, 1, -1}, {0, 0, 0, 0, 1, 2}, {0, 0, 0, Look.LOW, Look.HIGH, 0},
             {0, 0, 0, Look.HIGH, Look.LOW, 0}};
         for (int[] row : wrong) {
-            Look.refused(chain, "warm", Look.INVALID,
-                () -> chain.warm(row[0], row[1], row[2], row[3], row[4], row[5]));
+            Edge.refuse("warm", Look.INVALID, Edge::closedVan,
+                c -> c.warm(row[0], row[1], row[2], row[3], row[4], row[5]));
         }
     }
 
@@ -214,13 +211,10 @@ final class LookingTests {
     }
 
     private static void refusesMinutes() {
-        ColdChain chain = Look.withOpenVan(0, 5);
-        chain.loadPallet(0, 0, 300, 0, 0);
         for (int pallet : new int[] {-1, 1, 12, Look.LOW, Look.HIGH}) {
-            Look.refused(chain, "minutesLeft", Look.INVALID, () -> chain.minutesLeft(pallet));
+            Edge.refuse("minutesLeft", Look.INVALID, () -> PalletTests.rejected(1), c -> c.minutesLeft(pallet));
         }
-        chain.deliver(0);
-        Look.refused(chain, "minutesLeft", Look.ILLEGAL, () -> chain.minutesLeft(0));
+        Edge.refuse("minutesLeft", Look.ILLEGAL, () -> PalletTests.rejected(1), c -> c.minutesLeft(0));
     }
 
     private static void longestOpen() {
@@ -276,19 +270,28 @@ final class LookingTests {
     }
 
     private static void refusesLongestOpen() {
-        ColdChain chain = Look.withVan(0, 5);
         for (int van : new int[] {-1, 1, 3, Look.LOW, Look.HIGH}) {
-            Look.refused(chain, "longestOpen", Look.INVALID, () -> chain.longestOpen(van));
+            Edge.refuse("longestOpen", Look.INVALID, Edge::closedVan, c -> c.longestOpen(van));
         }
     }
 
-    private static void changesNothing() {
+    private static ColdChain looked() {
         ColdChain chain = PalletTests.rejected(5, 6);
         chain.loadPallet(0, 1, 20, 30, 0);
         chain.setProbe(0, 1, 1, 100);
         chain.pass(2);
         Look.type(chain, "w1;");
-        String before = Look.all(chain);
-        Checks.isTrue("all is told alike twice", before.equals(Look.all(chain)));
+        return chain;
+    }
+
+    private static void changesNothing() {
+        ColdChain chain = looked();
+        String before = Edge.numbers(chain);
+        Edge.ahead(chain);
+        Checks.isTrue("all is told alike twice", before.equals(Edge.numbers(chain)));
+        ColdChain other = looked();
+        String logged = Edge.logged(other);
+        Edge.numbers(other);
+        Checks.isTrue("the log is told alike twice", logged.equals(Edge.logged(other)));
     }
 }

@@ -64,17 +64,15 @@ final class PalletTests {
     }
 
     private static void refusesLoads() {
-        ColdChain chain = Look.withOpenVan(0, 5);
         int[][] wrong = {{1, 0, 0, 0, 0}, {-1, 0, 0, 0, 0}, {0, -1, 0, 0, 0}, {0, 3, 0, 0, 0}, {0, 0, -301, 0, 0},
             {0, 0, 301, 0, 0}, {0, 0, 0, -1, 0}, {0, 0, 0, 601, 0}, {0, 0, 0, 0, -1}, {0, 0, 0, 0, 10000},
             {Look.HIGH, Look.LOW, Look.HIGH, Look.LOW, Look.HIGH}};
         for (int[] row : wrong) {
-            Look.refused(chain, "loadPallet", Look.INVALID,
-                () -> chain.loadPallet(row[0], row[1], row[2], row[3], row[4]));
+            Edge.refuse("loadPallet", Look.INVALID, Edge::openVan,
+                c -> c.loadPallet(row[0], row[1], row[2], row[3], row[4]));
         }
-        chain.door(0, 0);
-        Look.refused(chain, "closed", Look.ILLEGAL, () -> chain.loadPallet(0, 0, 0, 0, 0));
-        Look.refused(chain, "closed and wrong", Look.INVALID, () -> chain.loadPallet(0, 0, 0, 601, 0));
+        Edge.refuse("closed", Look.ILLEGAL, Edge::closedVan, c -> c.loadPallet(0, 0, 0, 0, 0));
+        Edge.refuse("closed and wrong", Look.INVALID, Edge::closedVan, c -> c.loadPallet(0, 0, 0, 601, 0));
     }
 
     private static void room() {
@@ -84,20 +82,19 @@ final class PalletTests {
             Checks.due("loadPallet", chain.loadPallet(0, k / 3, 0, 0, 0), k);
         }
         for (int zone = 0; zone < 3; zone++) {
-            int full = zone;
-            Look.refused(chain, "a full zone", Look.FULL, () -> chain.loadPallet(0, full, 0, 0, 0));
+            Checks.due("a full zone", chain.loadPallet(0, zone, 0, 0, 0), Look.FULL);
         }
         chain.deliver(4);
         Checks.due("in the place of a delivered one", chain.loadPallet(0, 1, 0, 0, 0), 9);
-        Look.refused(chain, "full again", Look.FULL, () -> chain.loadPallet(0, 1, 0, 0, 0));
+        Checks.due("full again", chain.loadPallet(0, 1, 0, 0, 0), Look.FULL);
         chain.door(0, 0);
-        Look.refused(chain, "full and closed", Look.ILLEGAL, () -> chain.loadPallet(0, 1, 0, 0, 0));
+        Checks.due("full and closed", chain.loadPallet(0, 1, 0, 0, 0), Look.ILLEGAL);
         chain.door(1, 1);
         Checks.due("the eleventh", chain.loadPallet(1, 1, 0, 0, 0), 10);
         Checks.due("the twelfth", chain.loadPallet(1, 1, 0, 0, 0), 11);
-        Look.refused(chain, "a thirteenth", Look.FULL, () -> chain.loadPallet(1, 2, 0, 0, 0));
+        Checks.due("a thirteenth", chain.loadPallet(1, 2, 0, 0, 0), Look.FULL);
         chain.deliver(11);
-        Look.refused(chain, "a thirteenth after a delivery", Look.FULL, () -> chain.loadPallet(1, 2, 0, 0, 0));
+        Checks.due("a thirteenth after a delivery", chain.loadPallet(1, 2, 0, 0, 0), Look.FULL);
         Checks.due("van(0, 3)", chain.van(0, 3), 0x3EF);
         Checks.due("van(1, 3)", chain.van(1, 3), 0x400);
     }
@@ -121,14 +118,12 @@ final class PalletTests {
     }
 
     private static void refusesDoors() {
-        ColdChain chain = Look.withVan(0, 5);
         int[][] wrong = {{1, 1}, {-1, 1}, {0, 2}, {0, -1}, {Look.HIGH, 0}, {0, Look.LOW}};
         for (int[] row : wrong) {
-            Look.refused(chain, "door", Look.INVALID, () -> chain.door(row[0], row[1]));
+            Edge.refuse("door", Look.INVALID, Edge::closedVan, c -> c.door(row[0], row[1]));
         }
-        Look.refused(chain, "closed already", Look.ILLEGAL, () -> chain.door(0, 0));
-        chain.door(0, 1);
-        Look.refused(chain, "open already", Look.ILLEGAL, () -> chain.door(0, 1));
+        Edge.refuse("closed already", Look.ILLEGAL, Edge::closedVan, c -> c.door(0, 0));
+        Edge.refuse("open already", Look.ILLEGAL, Edge::openVan, c -> c.door(0, 1));
     }
 
     /** Zone 2 has 23, 42 (open) and 36 (closed) in the first three minutes: see VanTests. */
@@ -199,17 +194,17 @@ final class PalletTests {
     }
 
     private static void refusesDeliveries() {
-        ColdChain chain = threeMinutes(23, 1, 0);
         for (int pallet : new int[] {-1, 1, 12, Look.LOW, Look.HIGH}) {
-            Look.refused(chain, "deliver(" + pallet + ")", Look.INVALID, () -> chain.deliver(pallet));
+            Edge.refuse("deliver(" + pallet + ")", Look.INVALID, () -> threeMinutes(23, 1, 0), c -> c.deliver(pallet));
         }
+        ColdChain chain = threeMinutes(23, 1, 0);
         chain.door(0, 0);
-        Look.refused(chain, "closed", Look.ILLEGAL, () -> chain.deliver(0));
+        Checks.due("closed", chain.deliver(0), Look.ILLEGAL);
         chain.door(0, 1);
         chain.deliver(0);
-        Look.refused(chain, "delivered already", Look.ILLEGAL, () -> chain.deliver(0));
+        Checks.due("delivered already", chain.deliver(0), Look.ILLEGAL);
         chain.detour(1, 0);
-        Look.refused(chain, "brought back", Look.ILLEGAL, () -> chain.deliver(0));
+        Checks.due("brought back", chain.deliver(0), Look.ILLEGAL);
     }
 
     private static void sharesByValues() {
@@ -251,23 +246,28 @@ final class PalletTests {
         Checks.due("detour(5, 9)", chain.detour(5, 9), 6);
     }
 
-    private static void refusesDetours() {
-        ColdChain none = new ColdChain();
-        Look.refused(none, "without pallets", Look.INVALID, () -> none.detour(1, 0));
+    /** The pallets 0 and 1 are rejected, 2 is accepted, 3 in the van. */
+    private static ColdChain inEachState() {
         ColdChain chain = rejected(1, 2);
         chain.loadPallet(0, 0, 300, 0, 0);
         chain.deliver(2);
         chain.loadPallet(0, 0, 300, 0, 0);
+        return chain;
+    }
+
+    private static void refusesDetours() {
+        Edge.refuse("without pallets", Look.INVALID, ColdChain::new, c -> c.detour(1, 0));
         int[][] wrong = {{0, 0}, {16, 0}, {17, 0}, {-1, 0}, {Look.LOW, 0}, {Look.LOW + 1, 0}, {Look.HIGH, 0},
             {1, -1}, {1, 10000}, {4, 10000}};
         for (int[] row : wrong) {
-            Look.refused(chain, "detour", Look.INVALID, () -> chain.detour(row[0], row[1]));
+            Edge.refuse("detour", Look.INVALID, PalletTests::inEachState, c -> c.detour(row[0], row[1]));
         }
         for (int set : new int[] {4, 8, 5, 9, 12, 15}) {
-            Look.refused(chain, "detour(" + set + ", 0)", Look.ILLEGAL, () -> chain.detour(set, 0));
+            Edge.refuse("detour(" + set + ", 0)", Look.ILLEGAL, PalletTests::inEachState, c -> c.detour(set, 0));
         }
+        ColdChain chain = inEachState();
         Checks.due("detour(3, 9999)", chain.detour(3, 9999), 6666);
-        Look.refused(chain, "twice", Look.ILLEGAL, () -> chain.detour(1, 0));
+        Checks.due("twice", chain.detour(1, 0), Look.ILLEGAL);
     }
 
     private static void causes() {
@@ -356,9 +356,8 @@ final class PalletTests {
     }
 
     private static void refusesClaims() {
-        ColdChain chain = rejected(1);
         for (int cause : new int[] {-1, 4, Look.LOW, Look.HIGH}) {
-            Look.refused(chain, "claims(" + cause + ")", Look.INVALID, () -> chain.claims(cause));
+            Edge.refuse("claims(" + cause + ")", Look.INVALID, () -> rejected(1), c -> c.claims(cause));
         }
     }
 }

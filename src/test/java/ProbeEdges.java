@@ -1,5 +1,8 @@
 /** What the document says of probes, and promises 5 and 6. */
 final class ProbeEdges {
+    private static final String FOUND = "has been so in at least M minutes one directly after the other (this one included),"
+        + " it is found";
+
     private ProbeEdges() {
     }
 
@@ -7,6 +10,8 @@ final class ProbeEdges {
         probes();
         odd();
         found();
+        patience();
+        staysFound();
         told();
         setProbe();
         repair();
@@ -127,8 +132,7 @@ final class ProbeEdges {
 
     private static void found() {
         Edge edge = new Edge("Probes");
-        String found = "has been so in at least M minutes one directly after the other (this one included), it is found";
-        edge.test(found, "with M 1, 2 and 30: not one minute earlier", () -> {
+        edge.test(FOUND, "with M 1, 2 and 30: not one minute earlier", () -> {
             for (int patience : new int[] {1, 2, 3, 30}) {
                 ColdChain chain = patient(patience);
                 for (int minute = 1; minute < patience; minute++) {
@@ -139,7 +143,7 @@ final class ProbeEdges {
                 Checks.due("found", chain.zone(0, 1, 4), 1);
             }
         });
-        edge.test(found, "a minute between in which it is not odd", () -> {
+        edge.test(FOUND, "a minute between in which it is not odd", () -> {
             ColdChain chain = patient(3);
             chain.pass(2);
             chain.setProbe(0, 1, 0, 0);
@@ -149,7 +153,11 @@ final class ProbeEdges {
             Checks.due("two minutes", chain.pass(2), 0);
             Checks.due("the third", chain.pass(1), 1);
         });
-        edge.test(found, "a patience that becomes smaller tells in the next odd minute", () -> {
+    }
+
+    private static void patience() {
+        Edge edge = new Edge("Probes");
+        edge.test(FOUND, "a patience that becomes smaller tells in the next odd minute", () -> {
             ColdChain chain = patient(30);
             chain.pass(9);
             chain.setNumber(2, 5);
@@ -161,7 +169,7 @@ final class ProbeEdges {
             right.setProbe(0, 1, 0, 0);
             Checks.due("a minute later, not odd", right.pass(1), 0);
         });
-        edge.test(found, "a patience that becomes greater tells too", () -> {
+        edge.test(FOUND, "a patience that becomes greater tells too", () -> {
             ColdChain chain = patient(3);
             chain.pass(2);
             chain.setNumber(2, 30);
@@ -177,6 +185,10 @@ final class ProbeEdges {
             Checks.due("two minutes", chain.pass(2), 0);
             Checks.due("the third", chain.pass(1), 1);
         });
+    }
+
+    private static void staysFound() {
+        Edge edge = new Edge("Probes");
         edge.test("it stays found until it is repaired", "right again, with a greater patience, 300 minutes on", () -> {
             ColdChain chain = patient(1);
             chain.pass(1);

@@ -144,7 +144,7 @@ final class RuleTests {
         long[] fresh = reached(chain);
         Checks.isTrue("objects: " + fresh[0], fresh[0] * 512 <= 600_000);
         Checks.isTrue("fields and elements: " + fresh[1], fresh[1] * 512 <= 7_300_000);
-        for (int k = 0; k < 60; k++) {
+        for (int k = 0; k < 20; k++) {
             chain.addVan(0, 5);
             chain.door(0, 1);
             chain.loadPallet(0, k % 3, 0, 600, 1);

@@ -5,6 +5,7 @@ final class ScriptEdges {
 
     static void run() {
         texts();
+        commands();
         numbers();
         signs();
         positions();
@@ -59,6 +60,10 @@ final class ScriptEdges {
             errs(";", 0);
             errs("o1;;", 3);
         });
+    }
+
+    private static void commands() {
+        Edge edge = new Edge("Script");
         edge.test("\"o\" VAN opens a door", "door 1", () -> {
             ColdChain chain = typed("o1;");
             Checks.due("runScript()", chain.runScript(), 1);

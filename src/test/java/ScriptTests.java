@@ -29,14 +29,13 @@ final class ScriptTests {
     }
 
     private static void refusesCharacters() {
-        ColdChain chain = new ColdChain();
         int[] wrong = {-1, 256, Look.LOW, Look.HIGH};
         for (int character : wrong) {
-            Look.refused(chain, "append", Look.INVALID, () -> chain.appendCharacter(character));
+            Edge.refuse("append", Look.INVALID, ColdChain::new, c -> c.appendCharacter(character));
         }
-        Look.type(chain, "x".repeat(80));
-        Look.refused(chain, "an 81st", Look.FULL, () -> chain.appendCharacter('x'));
-        Look.refused(chain, "a wrong 81st", Look.INVALID, () -> chain.appendCharacter(256));
+        Edge.Maker full = () -> typed(new ColdChain(), "x".repeat(80));
+        Edge.refuse("an 81st", Look.FULL, full, c -> c.appendCharacter('x'));
+        Edge.refuse("a wrong 81st", Look.INVALID, full, c -> c.appendCharacter(256));
     }
 
     private static void clears() {
@@ -119,22 +118,29 @@ final class ScriptTests {
         }
     }
 
-    private static void failingCommands() {
-        ColdChain chain = Look.withOpenVan(0, 5);
+    private static ColdChain typed(ColdChain chain, String text) {
+        Look.type(chain, text);
+        return chain;
+    }
+
+    private static ColdChain withPallet() {
+        ColdChain chain = Edge.openVan();
         chain.loadPallet(0, 0, -300, 0, 1);
+        return chain;
+    }
+
+    private static void failingCommands() {
         String[] first = {"o0;", "o1;", "c1;", "o999;", "w0;", "w301;", "w999;", "d1;", "d12;", "r0.3;", "r1.0;"};
         for (String text : first) {
-            Look.type(chain, text);
-            Look.refused(chain, text, -300000, chain::runScript);
-            chain.clearText();
+            Edge.refuse(text, -300000, () -> typed(withPallet(), text), ColdChain::runScript);
         }
         Object[][] later = {{"w300;w300;w1;", 2}, {"c0;d0;", 1}, {"d0;d0;", 1}, {"c0;o0;w5;w0;c0;", 3},
             {"c0;c0;q", -1}, {"r0.0;r0.1;r0.2;r0.3;", 3}};
         for (Object[] row : later) {
             int number = (Integer) row[1];
-            Look.type(chain, (String) row[0]);
-            Look.refused(chain, (String) row[0], number < 0 ? -200006 : -300000 - number, chain::runScript);
-            chain.clearText();
+            String text = (String) row[0];
+            Edge.refuse(text, number < 0 ? -200006 : -300000 - number, () -> typed(withPallet(), text),
+                ColdChain::runScript);
         }
     }
 
@@ -155,12 +161,14 @@ final class ScriptTests {
 
     private static void oneEdit() {
         ColdChain chain = Look.withVan(0, 5);
-        String before = Look.allButText(chain);
+        String before = Edge.numbers(chain);
         Checks.due("runScript()", Look.script(chain, "o0;w5;c0;w5;o0;w9;c0;w5;"), 8);
         Checks.due("count(7)", chain.count(7), 2);
+        Checks.due("undo()", chain.undo(), 1);
+        Checks.isTrue("all is undone", before.equals(Edge.numbers(chain)));
+        Look.script(chain, "w1;");
         Look.type(chain, "w");
         Checks.due("undo()", chain.undo(), 1);
-        Checks.isTrue("all is undone", before.equals(Look.allButText(chain)));
         Checks.due("the text stays", chain.count(6), 1);
     }
 

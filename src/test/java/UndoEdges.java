@@ -50,7 +50,14 @@ final class UndoEdges {
         Edge edge = new Edge("Undo");
         for (int k = 0; k < EDITS.length; k++) {
             Edge.Call edit = EDITS[k];
-            edge.test(EACH, "edit " + k + " saves a state and is undone", () -> {
+            edge.test(EACH, "edit " + k + ", behind six others, is undone", () -> {
+                ColdChain chain = Edge.busy();
+                edit.on(chain);
+                Checks.due("count(7)", chain.count(7), 6);
+                Checks.due("undo()", chain.undo(), 5);
+                Checks.isTrue("all is as before", Edge.state(Edge.busy()).equals(Edge.state(chain)));
+            });
+            edge.test(EACH, "edit " + k + " saves a state, where five are saved", () -> {
                 ColdChain chain = Edge.busy();
                 Checks.due("undo()", chain.undo(), 5);
                 edit.on(chain);
@@ -143,6 +150,22 @@ final class UndoEdges {
             chain.undo();
             Checks.due("count(6)", chain.count(6), 0);
             Checks.due("count(2)", chain.count(2), 4);
+        });
+        edge.test(text, "the minutes of a pallet, open, closed and told ones", () -> {
+            ColdChain chain = Look.withOpenVan(11, 0);
+            chain.setNumber(0, 11);
+            chain.loadPallet(0, 0, 10, 9, 0);
+            chain.pass(2);
+            chain.door(0, 0);
+            chain.pass(3);
+            int[][] due = {{2, 3, 5}, {2, 0, 2}, {2, 0, 2}, {0, 0, 0}};
+            for (int[] row : due) {
+                for (int k = 0; k < 3; k++) {
+                    Checks.due("pallet(0, " + (6 + k) + ")", chain.pallet(0, 6 + k), row[k]);
+                }
+                chain.undo();
+            }
+            Checks.due("count(1)", chain.count(1), 0);
         });
         edge.test(text, "the log", () -> {
             ColdChain chain = Edge.at(3);

@@ -16,41 +16,34 @@ final class UndoTests {
         Checks.test("24: undo and edits in turn", UndoTests::inTurn);
     }
 
-    private static void check(ColdChain chain, String name, int want, Look.Call edit) {
-        String before = Look.allButText(chain);
-        int saved = chain.count(7);
-        Checks.due(name, edit.answer(), want);
-        Checks.due("count(7) after " + name, chain.count(7), Math.min(6, saved + 1));
-        Checks.due("undo() of " + name, chain.undo(), Math.min(5, saved));
-        Checks.isTrue(name + " is undone", before.equals(Look.allButText(chain)));
-        edit.answer();
+    /** Each edit is done, undone and done again, behind all the ones ahead of it. */
+    private static ColdChain story(Edge.Call[] edits, int[] due, int number) {
+        ColdChain chain = new ColdChain();
+        for (int k = 0; k < number; k++) {
+            Checks.due("edit " + k, edits[k].on(chain), due[k]);
+            Checks.due("count(7) after edit " + k, chain.count(7), Math.min(6, k + 1));
+            Checks.due("undo() of edit " + k, chain.undo(), Math.min(5, k));
+            Checks.due("edit " + k + " again", edits[k].on(chain), due[k]);
+        }
+        return chain;
     }
 
     private static void eachEdit() {
-        ColdChain chain = new ColdChain();
-        check(chain, "addVan", 0, () -> chain.addVan(0, 5));
-        check(chain, "setNumber", 200, () -> chain.setNumber(0, 20));
-        check(chain, "setNumber", 30, () -> chain.setNumber(1, 40));
-        check(chain, "setNumber", 3, () -> chain.setNumber(2, 2));
-        check(chain, "setVan", 0, () -> chain.setVan(0, -5, 6));
-        check(chain, "setProbe", 0, () -> chain.setProbe(0, 1, 2, 300));
-        check(chain, "door", 0, () -> chain.door(0, 1));
-        check(chain, "loadPallet", 0, () -> chain.loadPallet(0, 1, -5, 2, 100));
-        check(chain, "pass", 1, () -> chain.pass(9));
-        check(chain, "door", 1, () -> chain.door(0, 0));
-        check(chain, "pass with a closed door", 0, () -> chain.pass(2));
-        // zone 1 comes from 4: -2, which is above the limit, and -5, which is not
-        Checks.due("closed warm minutes", chain.pallet(0, 7), 1);
-        check(chain, "door", 1, () -> chain.door(0, 1));
-        check(chain, "repair", 1, () -> chain.repair(0, 1));
-        check(chain, "deliver", 2, () -> chain.deliver(0));
-        check(chain, "detour", 77, () -> chain.detour(1, 77));
-        Look.type(chain, "c0;w5;");
-        check(chain, "runScript", 2, () -> {
-            chain.clearText();
-            return Look.script(chain, "c0;w5;");
-        });
-        check(chain, "an edit that changes nothing", 0, () -> chain.repair(0, 1));
+        Edge.Call[] edits = {c -> c.addVan(0, 5), c -> c.setNumber(0, 20), c -> c.setNumber(1, 40),
+            c -> c.setNumber(2, 2), c -> c.setVan(0, -5, 6), c -> c.setProbe(0, 1, 2, 300), c -> c.door(0, 1),
+            c -> c.loadPallet(0, 1, -5, 2, 100), c -> c.pass(9), c -> c.door(0, 0), c -> c.pass(2),
+            c -> c.door(0, 1), c -> c.repair(0, 1), c -> c.deliver(0), c -> c.detour(1, 77),
+            c -> Look.script(c, "c0;w5;"), c -> c.repair(0, 1)};
+        int[] due = {0, 200, 30, 3, 0, 0, 0, 0, 1, 1, 0, 1, 1, 2, 77, 2, 0};
+        for (int k = 0; k < edits.length; k++) {
+            ColdChain chain = story(edits, due, k);
+            edits[k].on(chain);
+            chain.undo();
+            Checks.isTrue("edit " + k + " is undone", Edge.state(story(edits, due, k)).equals(Edge.state(chain)));
+            Checks.isTrue("its log too", Edge.logged(story(edits, due, k)).equals(Edge.logged(chain)));
+        }
+        // In the eleventh, zone 1 comes from 4: -2, which is above the limit, and -5, which is not.
+        Checks.due("closed warm minutes", story(edits, due, 11).pallet(0, 7), 1);
     }
 
     private static void sixStates() {
@@ -64,7 +57,8 @@ final class UndoTests {
             Checks.due("count(3)", chain.count(3), k);
             Checks.due("count(7)", chain.count(7), k - 3);
         }
-        Look.refused(chain, "undo() without states", Look.ILLEGAL, chain::undo);
+        Checks.due("undo() without states", chain.undo(), Look.ILLEGAL);
+        Checks.due("count(3)", chain.count(3), 3);
     }
 
     private static void refusedOnes() {
@@ -141,18 +135,23 @@ final class UndoTests {
         Checks.due("pallet(0, 6)", chain.pallet(0, 6), 0);
     }
 
+    private static String shown(ColdChain chain) {
+        int time = chain.count(2);
+        return time + ": " + Look.zones(chain, 0, 0) + " " + chain.log(0, 2, time, 0) + " " + chain.log(0, 2, time + 1, 0);
+    }
+
     private static void inTurn() {
         ColdChain chain = Look.withOpenVan(0, 5);
         List<String> states = new ArrayList<>();
-        for (int round = 0; round < 20; round++) {
+        for (int round = 0; round < 10; round++) {
             for (int k = 0; k < 4; k++) {
-                states.add(Look.allButText(chain));
+                states.add(shown(chain));
                 chain.pass(1 + k);
             }
             for (int k = 0; k < 3; k++) {
                 chain.undo();
                 String due = states.remove(states.size() - 1);
-                Checks.isTrue("round " + round, due.equals(Look.allButText(chain)));
+                Checks.isTrue("round " + round, due.equals(shown(chain)));
             }
         }
     }

@@ -7,6 +7,8 @@ final class VanEdges {
         uses();
         terms();
         vans();
+        temperatures();
+        minutes();
         openMinutes();
         closedMinutes();
         airAndLog();
@@ -104,6 +106,10 @@ final class VanEdges {
             Checks.due("an open one", chain.van(1, 2), 1);
             Checks.due("another one", chain.van(0, 2), 0);
         });
+    }
+
+    private static void temperatures() {
+        Edge edge = new Edge("Vans");
         edge.names("three zones, 0 (in front), 1 and 2 (at the door)", 0, 2, Edge::busy, (c, n) -> c.zone(1, n, 0));
         edge.test("three zones, 0 (in front), 1 and 2 (at the door)", "2 becomes warm first, 0 last", () -> {
             ColdChain chain = Edge.openVan();
@@ -130,6 +136,10 @@ final class VanEdges {
         });
         edge.range("-200 to 450", -200, 450, Edge::busy, (c, n) -> c.setNumber(0, n), c -> c.count(3));
         edge.test("(at first 200)", "of a new object", () -> Checks.due("count(3)", new ColdChain().count(3), 200));
+    }
+
+    private static void minutes() {
+        Edge edge = new Edge("Vans");
         edge.test("In a minute, the time increases by 1", "without vans too", () -> {
             ColdChain chain = new ColdChain();
             chain.pass(1);

@@ -76,16 +76,12 @@ final class VanTests {
     }
 
     private static void refusesVans() {
-        ColdChain chain = new ColdChain();
         int[][] wrong = {{-301, 0}, {101, 0}, {0, -1}, {0, 31}, {Look.LOW, 0}, {0, Look.HIGH}};
         for (int[] row : wrong) {
-            Look.refused(chain, "addVan", Look.INVALID, () -> chain.addVan(row[0], row[1]));
+            Edge.refuse("addVan", Look.INVALID, ColdChain::new, c -> c.addVan(row[0], row[1]));
         }
-        chain.addVan(0, 0);
-        chain.addVan(0, 0);
-        chain.addVan(0, 0);
-        Look.refused(chain, "a fourth van", Look.FULL, () -> chain.addVan(0, 0));
-        Look.refused(chain, "a wrong fourth van", Look.INVALID, () -> chain.addVan(0, 31));
+        Edge.refuse("a fourth van", Look.FULL, Edge::threeVans, c -> c.addVan(0, 0));
+        Edge.refuse("a wrong fourth van", Look.INVALID, Edge::threeVans, c -> c.addVan(0, 31));
     }
 
     private static void setsNumbers() {
@@ -101,12 +97,11 @@ final class VanTests {
     }
 
     private static void refusesNumbers() {
-        ColdChain chain = new ColdChain();
         int[][] wrong = {{0, -201}, {0, 451}, {1, 4}, {1, 101}, {2, 0}, {2, 31}, {3, 10}, {-1, 10},
             {Look.LOW, 10}, {Look.HIGH, 10}, {0, Look.LOW}, {1, Look.HIGH}, {2, Look.LOW}};
         for (int[] row : wrong) {
             String name = "setNumber(" + row[0] + ", " + row[1] + ")";
-            Look.refused(chain, name, Look.INVALID, () -> chain.setNumber(row[0], row[1]));
+            Edge.refuse(name, Look.INVALID, ColdChain::new, c -> c.setNumber(row[0], row[1]));
         }
     }
 
@@ -123,10 +118,9 @@ final class VanTests {
     }
 
     private static void refusesVanSettings() {
-        ColdChain chain = Look.withVan(20, 4);
         int[][] wrong = {{1, 0, 0}, {-1, 0, 0}, {0, -301, 0}, {0, 101, 0}, {0, 0, -1}, {0, 0, 31}, {Look.HIGH, 0, 0}};
         for (int[] row : wrong) {
-            Look.refused(chain, "setVan", Look.INVALID, () -> chain.setVan(row[0], row[1], row[2]));
+            Edge.refuse("setVan", Look.INVALID, () -> Look.withVan(20, 4), c -> c.setVan(row[0], row[1], row[2]));
         }
     }
 
@@ -162,12 +156,12 @@ final class VanTests {
     }
 
     private static void refusesProbeSettings() {
-        ColdChain chain = Look.withVan(20, 4);
         int[][] wrong = {{1, 0, 0, 0}, {-1, 0, 0, 0}, {0, -1, 0, 0}, {0, 3, 0, 0}, {0, 0, -1, 0}, {0, 0, 3, 0},
             {0, 0, 0, 1}, {0, 0, 0, -1}, {0, 0, 1, -201}, {0, 0, 1, 201}, {0, 0, 2, -301}, {0, 0, 2, 451},
             {0, Look.HIGH, 0, 0}, {0, 0, Look.LOW, 0}};
         for (int[] row : wrong) {
-            Look.refused(chain, "setProbe", Look.INVALID, () -> chain.setProbe(row[0], row[1], row[2], row[3]));
+            Edge.refuse("setProbe", Look.INVALID, () -> Look.withVan(20, 4),
+                c -> c.setProbe(row[0], row[1], row[2], row[3]));
         }
     }
 
@@ -189,10 +183,9 @@ final class VanTests {
     }
 
     private static void refusesRepairs() {
-        ColdChain chain = Look.withVan(0, 5);
         int[][] wrong = {{1, 0}, {-1, 0}, {0, -1}, {0, 3}, {Look.LOW, Look.HIGH}};
         for (int[] row : wrong) {
-            Look.refused(chain, "repair", Look.INVALID, () -> chain.repair(row[0], row[1]));
+            Edge.refuse("repair", Look.INVALID, Edge::closedVan, c -> c.repair(row[0], row[1]));
         }
     }
 
@@ -314,17 +307,17 @@ final class VanTests {
     }
 
     private static void refusesPass() {
-        ColdChain chain = new ColdChain();
         for (int minutes : new int[] {0, -1, 301, Look.LOW, Look.HIGH}) {
-            Look.refused(chain, "pass(" + minutes + ")", Look.INVALID, () -> chain.pass(minutes));
+            Edge.refuse("pass(" + minutes + ")", Look.INVALID, ColdChain::new, c -> c.pass(minutes));
         }
+        ColdChain chain = new ColdChain();
         Checks.due("pass(300)", chain.pass(300), 0);
         Checks.due("pass(299)", chain.pass(299), 0);
-        Look.refused(chain, "pass(2) at 599", Look.FULL, () -> chain.pass(2));
-        Look.refused(chain, "pass(301) at 599", Look.INVALID, () -> chain.pass(301));
+        Checks.due("pass(2) at 599", chain.pass(2), Look.FULL);
+        Checks.due("pass(301) at 599", chain.pass(301), Look.INVALID);
         Checks.due("pass(1) at 599", chain.pass(1), 0);
         Checks.due("count(2)", chain.count(2), 600);
-        Look.refused(chain, "pass(1) at 600", Look.FULL, () -> chain.pass(1));
+        Checks.due("pass(1) at 600", chain.pass(1), Look.FULL);
     }
 
     private static void toldTemperatures() {

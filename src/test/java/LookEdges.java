@@ -467,6 +467,16 @@ final class LookEdges {
             chain.deliver(2);
             Checks.due("none", chain.longestOpen(0), 60);
         });
+        edge.test("no pallet that is in the van", "not the rejected ones, brought back or not", () -> {
+            ColdChain chain = quick(0);
+            chain.loadPallet(0, 0, 0, 9, 0);
+            chain.pass(1);
+            Checks.due("overdue in the van", chain.longestOpen(0), Look.NONE);
+            Checks.due("deliver(0)", chain.deliver(0), 2);
+            Checks.due("rejected", chain.longestOpen(0), 8);
+            chain.detour(1, 0);
+            Checks.due("brought back", chain.longestOpen(0), 8);
+        });
         edge.test("no pallet that is in the van", "not the ones of other vans", () -> {
             ColdChain chain = quick(5);
             chain.addVan(0, 30);

@@ -80,6 +80,21 @@ final class UndoEdges {
                 Checks.isTrue("all is as before '" + text + "'", Edge.numbers(twin).equals(Edge.numbers(chain)));
             }
         });
+        edge.test(EACH, "those that answer a number below 0 are successful", () -> {
+            ColdChain chain = Look.withVan(-300, 0);
+            chain.setNumber(0, -200);
+            Checks.due("setVan", chain.setVan(0, -1, 0), -300);
+            Checks.due("setVan", chain.setVan(0, 5, 0), -1);
+            Checks.due("setNumber", chain.setNumber(0, -1), -200);
+            Checks.due("setNumber", chain.setNumber(0, 5), -1);
+            Checks.due("count(7)", chain.count(7), 6);
+            int[][] due = {{5, -1}, {5, -200}, {-1, -200}, {-300, -200}, {-300, 200}};
+            for (int[] row : due) {
+                chain.undo();
+                Checks.due("van(0, 0)", chain.van(0, 0), row[0]);
+                Checks.due("count(3)", chain.count(3), row[1]);
+            }
+        });
         edge.test(EACH, "those that change nothing save a state too", () -> {
             ColdChain chain = Edge.closedVan();
             Edge.Call[] edits = {c -> c.setNumber(0, 200), c -> c.setVan(0, 0, 5), c -> c.setProbe(0, 0, 0, 0),

@@ -1,9 +1,14 @@
-/** Runs every test of the project; the exit code is 1 if one fails. */
+/** Runs every test of the project, from its root; the exit code is 1 if one fails. */
 public final class AllTests {
+    private static final String SOURCE = "src/main/java/ColdChain.java";
+    private static final String TESTS = "src/test/java";
+    private static final String README = "README.md";
+    private static final String DOCUMENT = "../shared/DOC.md";
+
     private AllTests() {
     }
 
-    public static void main(String[] arguments) {
+    public static void main(String[] arguments) throws Exception {
         VanTests.run();
         PalletTests.run();
         ScriptTests.run();
@@ -17,9 +22,10 @@ public final class AllTests {
         LookEdges.run();
         UndoEdges.run();
         ErrorEdges.run();
-        SentenceTests.run(arguments.length > 1 ? arguments[1] : "../shared/DOC.md");
+        SentenceTests.run(DOCUMENT);
+        ReadmeTests.run(README, DOCUMENT, TESTS);
         ModelTests.run();
-        RuleTests.run(arguments.length > 0 ? arguments[0] : "src/main/java/ColdChain.java");
+        RuleTests.run(SOURCE, DOCUMENT);
         System.exit(Checks.close());
     }
 }

@@ -5,8 +5,10 @@ import java.lang.reflect.Modifier;
 import java.nio.charset.StandardCharsets;
 import java.nio.file.Files;
 import java.nio.file.Path;
+import java.util.ArrayList;
 import java.util.Arrays;
 import java.util.IdentityHashMap;
+import java.util.List;
 import java.util.Map;
 import java.util.Set;
 import java.util.TreeSet;
@@ -23,8 +25,9 @@ final class RuleTests {
     private RuleTests() {
     }
 
-    static void run(String source) {
+    static void run(String source, String document) {
         Checks.test("the face of the document", RuleTests::face);
+        Checks.test("the face stands in the source as in the document", () -> signatures(source, document));
         Checks.test("nothing but the face can be seen", RuleTests::hidden);
         Checks.test("no words that LANGUAGE.md rules out", () -> words(source));
         Checks.test("short methods, few classes", () -> sizes(source));
@@ -39,6 +42,7 @@ final class RuleTests {
             if (Modifier.isPublic(method.getModifiers())) {
                 calls.add(method.getName() + "/" + method.getParameterCount());
                 Checks.isTrue(method + " answers an int", method.getReturnType() == int.class);
+                Checks.isTrue(method + " is an object's", !Modifier.isStatic(method.getModifiers()));
                 for (Class<?> type : method.getParameterTypes()) {
                     Checks.isTrue(method + " takes ints", type == int.class);
                 }
@@ -50,6 +54,26 @@ final class RuleTests {
         Checks.due("CAPACITY_EXCEEDED", face.getField("CAPACITY_EXCEEDED").getInt(null), -100003);
         Checks.due("NONE", face.getField("NONE").getInt(null), -100009);
         Checks.due("public fields", face.getFields().length, 4);
+    }
+
+    /** To the letter, in the same order, with the same names of the arguments. */
+    private static void signatures(String source, String document) throws Exception {
+        List<String> due = new ArrayList<>();
+        boolean inside = false;
+        for (String line : Files.readAllLines(Path.of(document), StandardCharsets.UTF_8)) {
+            inside = line.startsWith("```java") || inside && !line.startsWith("```");
+            if (inside && line.strip().startsWith("public")) {
+                due.add(line.strip().replaceFirst("\\);$", ") {"));
+            }
+        }
+        Checks.due("lines of the face", due.size(), 29);
+        List<String> got = new ArrayList<>();
+        for (String line : Files.readAllLines(Path.of(source), StandardCharsets.ISO_8859_1)) {
+            if (line.strip().startsWith("public")) {
+                got.add(line.strip());
+            }
+        }
+        Checks.isTrue("the public lines are " + got, got.equals(due));
     }
 
     private static void hidden() {

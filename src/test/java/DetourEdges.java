@@ -112,6 +112,9 @@ final class DetourEdges {
             chain.detour(1, 7);
             Checks.due("with", chain.claims(0), 107);
             Checks.due("value 0", rejected(0).claims(0), 0);
+            ColdChain worthless = rejected(0, 0);
+            worthless.detour(3, 7);
+            claimsAre(worthless, 7, 0, 0);
             ColdChain most = rejected(9999);
             most.detour(1, 9999);
             Checks.due("the most", most.claims(0), 19998);
@@ -154,6 +157,23 @@ final class DetourEdges {
             fallsTo(1, 2, 1000, 333, 667);
             fallsTo(2, 1, 1000, 666, 334);
             fallsTo(2, 1, 1, 0, 1);
+        });
+        edge.test(share, "the warm minutes, not the told ones, more of them or fewer", () -> {
+            ColdChain more = PalletEdges.warmed(1, 2, 6, 0, 900);
+            more.deliver(0);
+            claimsAre(more, 300, 600, 0);
+            ColdChain fewer = Edge.openVan();
+            fewer.loadPallet(0, 1, -300, 0, 900);
+            fewer.pass(1);
+            fewer.setProbe(0, 1, 2, -300);
+            fewer.setNumber(2, 30);
+            fewer.pass(1);
+            fewer.door(0, 0);
+            fewer.pass(1);
+            fewer.door(0, 1);
+            fewer.deliver(0);
+            Checks.due("told minutes", fewer.pallet(0, 8), 1);
+            claimsAre(fewer, 600, 300, 0);
         });
         edge.test(share, "the greatest claim and the most minutes", () -> {
             ColdChain chain = Edge.openVan();
@@ -199,6 +219,11 @@ final class DetourEdges {
             Checks.due("of none", rejected(1, 9).detour(3, 0), 0);
             Checks.due("of what was left", rejected(1, 1, 1).detour(7, 2), 1);
             Checks.due("of one", rejected(0).detour(1, 9999), 9999);
+        });
+        edge.test("Returns the greatest part of a pallet", "of this detour, not of an earlier one", () -> {
+            ColdChain chain = rejected(1, 1, 1);
+            Checks.due("the first detour", chain.detour(1, 90), 90);
+            Checks.due("the second detour", chain.detour(6, 7), 4);
         });
         edge.refused("INVALID_ARGUMENT if pallets is not such a set or cost is out of range", "both", Look.INVALID,
             () -> rejected(1), c -> c.detour(0, -1), c -> c.detour(2, 10000), c -> c.detour(1, 10000));

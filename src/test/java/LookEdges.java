@@ -1,3 +1,6 @@
+import java.util.HashSet;
+import java.util.Set;
+
 /** Promises 15 to 18 and 20 to 23. */
 final class LookEdges {
     private LookEdges() {
@@ -10,8 +13,10 @@ final class LookEdges {
         pallet();
         log();
         warm();
+        warmRows();
         warmEntries();
         minutesLeft();
+        eachAhead();
         longestOpen();
         longestOpenPallets();
     }
@@ -329,6 +334,49 @@ final class LookEdges {
             c -> c.warm(0, 0, 0, Look.HIGH, Look.LOW, 0), c -> c.warm(0, 0, 0, 601, 600, 0));
     }
 
+    /** Three open vans, the third added a minute later, each zone as warm as no other, for 9 minutes. */
+    private static ColdChain nineZones() {
+        ColdChain chain = Look.withOpenVan(-300, 0);
+        chain.addVan(-100, 0);
+        chain.door(1, 1);
+        chain.setNumber(0, 450);
+        chain.setNumber(1, 100);
+        chain.pass(1);
+        chain.addVan(100, 0);
+        chain.door(2, 1);
+        for (int number = 0; number < 9; number++) {
+            chain.setProbe(number / 3, number % 3, 1, 10 * number - 100);
+        }
+        chain.pass(8);
+        return chain;
+    }
+
+    private static int above(ColdChain chain, int row, int limit) {
+        int entries = 0;
+        for (int time = 1; time <= 9; time++) {
+            entries += chain.log(row / 6, row / 2 % 3, time, row % 2) > limit ? 1 : 0;
+        }
+        return entries;
+    }
+
+    private static void warmRows() {
+        Edge edge = new Edge("Promise 21");
+        edge.test("Counts the minutes of the log in which a zone was too warm", "each row of each van has its own", () -> {
+            ColdChain chain = nineZones();
+            Set<String> rows = new HashSet<>();
+            for (int row = 0; row < 18; row++) {
+                StringBuilder counted = new StringBuilder();
+                for (int limit = -140; limit <= 300; limit += 40) {
+                    int minutes = chain.warm(row / 6, row / 2 % 3, limit, 0, 9, row % 2);
+                    Checks.due("row " + row + " above " + limit, minutes, above(nineZones(), row, limit));
+                    counted.append(minutes);
+                }
+                rows.add(counted.toString());
+            }
+            Checks.due("rows that differ", rows.size(), 18);
+        });
+    }
+
     private static void warmEntries() {
         Edge edge = new Edge("Promise 21");
         edge.test("that are above the limit", "at the limit they are not", () -> {
@@ -423,6 +471,43 @@ final class LookEdges {
         return chain;
     }
 
+    private static void eachAhead() {
+        Edge left = new Edge("Promise 22");
+        left.test("otherwise the smallest number of minutes, 1 to 300", "each of twelve pallets in three vans", () -> {
+            ColdChain chain = PalletEdges.threeOpen();
+            for (int k = 0; k < 12; k++) {
+                chain.loadPallet(k % 3, k / 3 % 3, -300, 20 - k, 0);
+            }
+            for (int passed = 0; passed < 3; passed++) {
+                for (int k = 0; k < 12; k++) {
+                    Checks.due("minutesLeft(" + k + ")", chain.minutesLeft(k), 21 - k - passed);
+                }
+                chain.pass(1);
+            }
+            chain.undo();
+            Checks.due("after an undo", chain.minutesLeft(11), 8);
+        });
+        Edge open = new Edge("Promise 23");
+        open.test("Returns the greatest number, 0 to 60, for which that is so", "each van by its own pallets", () -> {
+            ColdChain chain = new ColdChain();
+            chain.setNumber(0, 34);
+            for (int van = 0; van < 3; van++) {
+                chain.addVan(0, 30);
+                chain.door(van, 1);
+            }
+            for (int k = 0; k < 9; k++) {
+                chain.loadPallet(k % 3, 1, 300, 0, 0);
+            }
+            for (int van = 0; van < 3; van++) {
+                Checks.due("without limits", chain.longestOpen(van), 60);
+                chain.loadPallet(van, 0, 0, 10 * van + 7, 0);
+            }
+            for (int van = 0; van < 3; van++) {
+                Checks.due("longestOpen(" + van + ")", chain.longestOpen(van), 10 * van + 7);
+            }
+        });
+    }
+
     private static void longestOpen() {
         Edge edge = new Edge("Promise 23");
         edge.test("Finds for how many minutes the door of a van may be open from now on", "0, 1, 59, 60 and more", () -> {
@@ -484,6 +569,8 @@ final class LookEdges {
             chain.loadPallet(1, 0, -300, 0, 0);
             Checks.due("van 0", chain.longestOpen(0), 5);
             Checks.due("van 1", chain.longestOpen(1), Look.NONE);
+            chain.pass(1);
+            Checks.due("van 0, where that of van 1 is overdue", chain.longestOpen(0), 4);
         });
         edge.names("`van`: a van", 0, 2, Edge::threeVans, ColdChain::longestOpen);
         edge.test("Returns the greatest number, 0 to 60, for which that is so (perhaps not for all smaller ones)",

@@ -26,6 +26,14 @@ final class PalletEdges {
         return chain;
     }
 
+    static ColdChain threeOpen() {
+        ColdChain chain = Edge.threeVans();
+        for (int van = 0; van < 3; van++) {
+            chain.door(van, 1);
+        }
+        return chain;
+    }
+
     /** Three pallets that never are too warm in the zone 1 of the first of two open vans. */
     static ColdChain fullZone() {
         ColdChain chain = Edge.openVan();
@@ -79,7 +87,11 @@ final class PalletEdges {
                 }
                 return chain;
             }, c -> c.loadPallet(0, 0, 0, 0, 0), c -> c.loadPallet(1, 2, 0, 0, 0));
-        edge.test("numbered from 0 in the order in which they were loaded", "in two vans by turns", () -> {
+        edge.test("numbered from 0 in the order in which they were loaded", "in two and three vans by turns", () -> {
+            ColdChain three = threeOpen();
+            for (int k = 0; k < 12; k++) {
+                Checks.due("loadPallet", three.loadPallet(k % 3, k / 3 % 3, 0, 0, 0), k);
+            }
             ColdChain chain = Edge.openVan();
             chain.addVan(0, 5);
             chain.door(1, 1);
@@ -112,6 +124,23 @@ final class PalletEdges {
             Checks.due("zone 0", fullZone().loadPallet(0, 0, 0, 0, 0), 3);
             Checks.due("zone 2", fullZone().loadPallet(0, 2, 0, 0, 0), 3);
             Checks.due("another van", fullZone().loadPallet(1, 1, 0, 0, 0), 3);
+        });
+        edge.test("At most 3 pallets are in one zone at a time", "of each zone of each van, loaded by turns", () -> {
+            for (int van = 0; van < 3; van++) {
+                ColdChain chain = threeOpen();
+                chain.loadPallet((van + 1) % 3, 2, 0, 0, 0);
+                for (int k = 0; k < 9; k++) {
+                    Checks.due("zone " + k % 3, chain.loadPallet(van, k % 3, 0, 0, 0), k + 1);
+                }
+                for (int zone = 0; zone < 3; zone++) {
+                    Checks.due("a fourth in " + zone, chain.loadPallet(van, zone, 0, 0, 0), Look.FULL);
+                }
+                chain.deliver(5);
+                Checks.due("zone 0", chain.loadPallet(van, 0, 0, 0, 0), Look.FULL);
+                Checks.due("zone 2", chain.loadPallet(van, 2, 0, 0, 0), Look.FULL);
+                Checks.due("zone 1", chain.loadPallet(van, 1, 0, 0, 0), 10);
+                Checks.due("another van", chain.loadPallet((van + 1) % 3, 1, 0, 0, 0), 11);
+            }
         });
         edge.test("at a time", "delivered ones, accepted and rejected and brought back, leave room", () -> {
             ColdChain chain = Edge.openVan();
@@ -198,6 +227,23 @@ final class PalletEdges {
             minutesAre(chain, 0, 0, 0, 2);
             chain.pass(1);
             minutesAre(chain, 0, 0, 0, 2);
+        });
+        edge.test(told, "of a found probe: by what the others read, not by its own reading or the temperature", () -> {
+            for (int shift : new int[] {4, -4}) {
+                ColdChain chain = Look.withOpenVan(0, 0);
+                chain.setNumber(0, 0);
+                chain.setNumber(2, 1);
+                chain.loadPallet(0, 1, 3, 0, 0);
+                chain.loadPallet(0, 1, 4, 0, 0);
+                chain.loadPallet(0, 1, -1, 0, 0);
+                chain.setProbe(0, 0, 1, shift);
+                chain.setProbe(0, 1, 2, 400);
+                chain.setProbe(0, 2, 1, shift);
+                chain.pass(1);
+                minutesAre(chain, 0, 0, 0, shift > 0 ? 1 : 0);
+                minutesAre(chain, 1, 0, 0, 0);
+                minutesAre(chain, 2, 1, 0, shift > 0 ? 1 : 0);
+            }
         });
     }
 
@@ -347,5 +393,30 @@ final class PalletEdges {
             chain.door(0, 0);
             return chain;
         }, c -> c.deliver(0), c -> c.deliver(2));
+        for (int van = 0; van < 3; van++) {
+            int closed = van;
+            edge.refused("or the door of its van is closed", "that of van " + van + " alone", Look.ILLEGAL, () -> {
+                ColdChain chain = oneEach();
+                chain.door(closed, 0);
+                return chain;
+            }, c -> c.deliver(closed));
+        }
+        edge.test("or the door of its van is closed", "the other two vans are closed: it is delivered", () -> {
+            for (int van = 0; van < 3; van++) {
+                ColdChain chain = oneEach();
+                chain.door((van + 1) % 3, 0);
+                chain.door((van + 2) % 3, 0);
+                Checks.due("deliver(" + van + ")", chain.deliver(van), 1);
+            }
+        });
+    }
+
+    /** Three open vans, each with the pallet of its number. */
+    private static ColdChain oneEach() {
+        ColdChain chain = threeOpen();
+        for (int van = 0; van < 3; van++) {
+            chain.loadPallet(van, 0, 0, 0, 0);
+        }
+        return chain;
     }
 }

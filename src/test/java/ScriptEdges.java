@@ -98,6 +98,22 @@ final class ScriptEdges {
             Checks.due("zone(0, 1, 4)", chain.zone(0, 1, 4), 0);
             Checks.due("zone(0, 1, 3)", chain.zone(0, 1, 3), 0);
         });
+        edge.test("\"r\" VAN \".\" ZONE repairs a probe", "each of nine, at each place of a script", () -> {
+            for (int first = 0; first < 9; first++) {
+                ColdChain chain = Edge.threeVans();
+                StringBuilder text = new StringBuilder();
+                for (int k = 0; k < 9; k++) {
+                    int number = (first + k) % 9;
+                    chain.setProbe(number / 3, number % 3, 2, 7);
+                    text.append(k < 8 ? "r" + number / 3 + "." + number % 3 + ";" : "w1;");
+                }
+                Checks.due("'" + text + "'", Look.script(chain, text.toString()), 9);
+                for (int k = 0; k < 9; k++) {
+                    int number = (first + k) % 9;
+                    Checks.due("mode of " + number, chain.zone(number / 3, number % 3, 3), k < 8 ? 0 : 2);
+                }
+            }
+        });
     }
 
     private static void numbers() {

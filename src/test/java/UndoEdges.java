@@ -13,6 +13,7 @@ final class UndoEdges {
 
     static void run() {
         edits();
+        editsOfEach();
         noEdits();
         states();
         restores();
@@ -103,6 +104,84 @@ final class UndoEdges {
                 edits[k].on(chain);
                 Checks.due("count(7)", chain.count(7), k + 2);
             }
+        });
+    }
+
+    /** Three open vans, with all nine probes found, and eleven pallets, each with warm minutes. */
+    private static ColdChain loaded() {
+        ColdChain chain = PalletEdges.threeOpen();
+        chain.setNumber(2, 1);
+        for (int k = 0; k < 11; k++) {
+            chain.loadPallet(k % 3, k / 3 % 3, -300, k, 10 * k);
+        }
+        for (int zone = 0; zone < 3; zone++) {
+            for (int van = 0; van < 3; van++) {
+                chain.setProbe(van, zone, 1, 200);
+            }
+            chain.pass(1);
+            for (int van = 0; van < 3; van++) {
+                chain.setProbe(van, zone, 0, 0);
+            }
+        }
+        Checks.due("found probes", chain.count(8), 9);
+        return chain;
+    }
+
+    /** The edit changes what can be seen, and an undo brings all of it back. */
+    private static void isUndone(String name, Edge.Maker maker, Edge.Call edit) {
+        String due = Edge.state(maker.make());
+        ColdChain chain = maker.make();
+        Checks.isTrue(name + " is an edit", edit.on(chain) > Look.INVALID);
+        ColdChain twin = maker.make();
+        edit.on(twin);
+        Checks.isTrue(name + " changes something", !due.equals(Edge.state(twin)));
+        Checks.due(name + ": undo()", chain.undo(), 5);
+        Checks.isTrue(name + " is undone", due.equals(Edge.state(chain)));
+        ColdChain again = maker.make();
+        edit.on(again);
+        again.undo();
+        Checks.isTrue(name + " is not in what would be", Edge.ahead(maker.make()).equals(Edge.ahead(again)));
+    }
+
+    private static void editsOfEach() {
+        Edge edge = new Edge("Undo");
+        String words = "undo() restores the most recently saved state and discards it";
+        for (int number = 0; number < 3; number++) {
+            int van = number;
+            edge.test(words, "of the van " + van, () -> {
+                isUndone("setVan", UndoEdges::loaded, c -> c.setVan(van, -50, 7));
+                isUndone("door", UndoEdges::loaded, c -> c.door(van, 0));
+            });
+            edge.test(words, "of each zone of the van " + van, () -> {
+                for (int k = 0; k < 3; k++) {
+                    int zone = k;
+                    isUndone("setProbe " + zone, UndoEdges::loaded, c -> c.setProbe(van, zone, 2, 33));
+                    isUndone("repair " + zone, UndoEdges::loaded, c -> c.repair(van, zone));
+                    isUndone("loadPallet " + zone, UndoEdges::loaded, c -> c.loadPallet(van, zone, 1, 2, 3));
+                }
+            });
+        }
+        edge.test(words, "of each pallet", () -> {
+            for (int k = 0; k < 11; k++) {
+                int pallet = k;
+                isUndone("deliver " + pallet, UndoEdges::loaded, c -> c.deliver(pallet));
+            }
+        });
+        edge.test(words, "of all pallets and of all zones together", () -> {
+            isUndone("detour", () -> {
+                ColdChain chain = PalletEdges.twelve();
+                chain.pass(1);
+                for (int k = 0; k < 12; k++) {
+                    chain.deliver(k);
+                }
+                return chain;
+            }, c -> c.detour(4095, 9999));
+            isUndone("pass", UndoEdges::loaded, c -> c.pass(5));
+            isUndone("runScript", () -> {
+                ColdChain chain = loaded();
+                Look.type(chain, "d0;w1;d5;d10;r2.2;c0;c1;c2;w9;");
+                return chain;
+            }, ColdChain::runScript);
         });
     }
 

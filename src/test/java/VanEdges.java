@@ -478,6 +478,23 @@ final class VanEdges {
             Checks.due("pass(3)", chain.pass(3), 1);
             Checks.due("pass(300)", chain.pass(300), 0);
         });
+        edge.test(found, "one that is found already, not odd for a minute, then odd for the patience", () -> {
+            ColdChain chain = Edge.closedVan();
+            chain.setProbe(0, 2, 2, 400);
+            Checks.due("pass(3)", chain.pass(3), 1);
+            chain.setProbe(0, 2, 0, 0);
+            Checks.due("not odd", chain.pass(1), 0);
+            chain.setProbe(0, 2, 2, 400);
+            Checks.due("odd again", chain.pass(9), 0);
+            Checks.due("count(8)", chain.count(8), 1);
+        });
+        edge.test(found, "one that is found already, with a greater patience, is not counted when that is over", () -> {
+            ColdChain chain = Edge.closedVan();
+            chain.setProbe(0, 2, 2, 400);
+            Checks.due("pass(3)", chain.pass(3), 1);
+            chain.setNumber(2, 6);
+            Checks.due("pass(9)", chain.pass(9), 0);
+        });
         edge.test(found, "one that is found again after its repair", () -> {
             ColdChain chain = Edge.closedVan();
             chain.setProbe(0, 2, 2, 400);

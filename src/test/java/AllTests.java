@@ -22,6 +22,7 @@ public final class AllTests {
         LookEdges.run();
         UndoEdges.run();
         ErrorEdges.run();
+        EachEdges.run();
         SentenceTests.run(DOCUMENT);
         ReadmeTests.run(README, DOCUMENT, TESTS);
         ModelTests.run();

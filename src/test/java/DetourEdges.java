@@ -7,6 +7,7 @@ final class DetourEdges {
 
     static void run() {
         detours();
+        numbersOfPallets();
         claimed();
         claimShares();
         detour();
@@ -101,6 +102,32 @@ final class DetourEdges {
         edge.test("If all values are 0, they count as 1 each", "not if one is 1; if all of the chosen ones are", () -> {
             shares(rejected(0, 1), 3, 10, "0 10");
             shares(rejected(0, 7, 0), 5, 10, "5 0 5");
+        });
+    }
+
+    private static void numbersOfPallets() {
+        Edge edge = new Edge("Detours");
+        edge.test("A detour brings rejected pallets back together", "1 to 12 of them, with alike values and without", () -> {
+            for (int number = 1; number <= 12; number++) {
+                StringBuilder due = new StringBuilder();
+                for (int k = 0; k < number; k++) {
+                    due.append(k == 0 ? "" : " ").append(50 / number + (k < 50 % number ? 1 : 0));
+                }
+                shares(rejected(alike(number, 7)), (1 << number) - 1, 50, due.toString());
+                shares(rejected(alike(number, 0)), (1 << number) - 1, 50, due.toString());
+            }
+        });
+        edge.test("A detour brings rejected pallets back together", "each two of twelve", () -> {
+            for (int first = 0; first < 12; first++) {
+                int second = (first + 5) % 12;
+                ColdChain chain = rejected(alike(12, 3));
+                Checks.due("detour", chain.detour(1 << first | 1 << second, 9), 5);
+                for (int k = 0; k < 12; k++) {
+                    boolean among = k == first || k == second;
+                    Checks.due("state of " + k, chain.pallet(k, 5), among ? 3 : 2);
+                    Checks.due("part of " + k, chain.pallet(k, 10), !among ? 0 : k == Math.min(first, second) ? 5 : 4);
+                }
+            }
         });
     }
 

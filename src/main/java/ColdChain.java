@@ -234,7 +234,7 @@ public final class ColdChain {
         return minutes;
     }
 
-    // ---- what would be
+    // ---- what would be (nothing changes; the time can become greater than 600 in them)
 
     public int minutesLeft(int pallet) {
         if (!now.hasPallet(pallet)) {

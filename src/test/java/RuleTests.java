@@ -28,6 +28,7 @@ final class RuleTests {
     static void run(String source, String document) {
         Checks.test("the face of the document", RuleTests::face);
         Checks.test("the face stands in the source as in the document", () -> signatures(source, document));
+        Checks.test("Errors: \"Ahead of the calls .. the interface says\"", () -> headings(source, document));
         Checks.test("nothing but the face can be seen", RuleTests::hidden);
         Checks.test("no words that LANGUAGE.md rules out", () -> words(source));
         Checks.test("short methods, few classes", () -> sizes(source));
@@ -74,6 +75,28 @@ final class RuleTests {
             }
         }
         Checks.isTrue("the public lines are " + got, got.equals(due));
+    }
+
+    private static void headings(String source, String document) throws Exception {
+        List<String> due = new ArrayList<>();
+        Pattern said = Pattern.compile("Ahead of the calls (.*) the interface says: (---- .*)\\.");
+        for (String line : Files.readAllLines(Path.of(document), StandardCharsets.UTF_8)) {
+            Matcher heading = said.matcher(line);
+            if (heading.matches()) {
+                due.add("// " + heading.group(2));
+                due.addAll(Arrays.asList(heading.group(1).replace("`", "").split(", ")));
+            }
+        }
+        Checks.due("headings and calls", due.size(), 5 + 23);
+        List<String> got = new ArrayList<>();
+        for (String line : Files.readAllLines(Path.of(source), StandardCharsets.ISO_8859_1)) {
+            Matcher call = Pattern.compile(" {4}public int (\\w+)\\(.*").matcher(line);
+            if (line.startsWith("    // ---- ") || call.matches()) {
+                got.add(call.matches() ? call.group(1) : line.strip());
+            }
+        }
+        // What stands behind the face has a heading of its own.
+        Checks.isTrue("the source has " + got, got.size() == 29 && got.subList(0, 28).equals(due));
     }
 
     private static void hidden() {

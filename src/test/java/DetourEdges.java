@@ -127,7 +127,21 @@ final class DetourEdges {
                     Checks.due("state of " + k, chain.pallet(k, 5), among ? 3 : 2);
                     Checks.due("part of " + k, chain.pallet(k, 10), !among ? 0 : k == Math.min(first, second) ? 5 : 4);
                 }
+                Checks.due("detour of the others", chain.detour(4095 ^ (1 << first | 1 << second), 39), 4);
+                int left = 9;
+                for (int k = 0; k < 12; k++) {
+                    boolean among = k == first || k == second;
+                    int later = left > 0 ? 4 : 3;
+                    Checks.due("part of " + k, chain.pallet(k, 10), !among ? later : k == Math.min(first, second) ? 5 : 4);
+                    left -= among ? 0 : 1;
+                }
             }
+        });
+        edge.test("the part of each is cost * value / (sum of their values)", "twelve with other values each", () -> {
+            int[] values = {1, 2, 3, 4, 5, 6, 7, 8, 9, 10, 11, 12};
+            shares(rejected(values), 4095, 785, "11 21 31 41 51 60 70 80 90 100 110 120");
+            int[] back = {12, 11, 10, 9, 8, 7, 6, 5, 4, 3, 2, 1};
+            shares(rejected(back), 4095, 785, "121 111 101 91 81 70 60 50 40 30 20 10");
         });
     }
 

@@ -14,6 +14,8 @@ final class EachEdges {
         vans();
         pallets();
         commands();
+        errors();
+        loads();
         noSuchVan();
         noSuchZone();
         noSuchPallet();
@@ -225,6 +227,52 @@ final class EachEdges {
                 Checks.due("w", ran(ahead + "w9;", place).count(2), place + 9);
             }
         });
+    }
+
+    private static void errors() {
+        Edge edge = new Edge("Script");
+        String first = "the error position is the offset (from 0) of the first character that is not allowed where it stands";
+        // The number ahead is the offset within the last command.
+        String[] wrong = {"0q;", "0;", "1o;", "1c-;", "1w01;", "1d1000;", "2w1.;", "2r1;", "3r1.;", "3r1.00;", "4r1.1.", "2d1"};
+        edge.test(first, "in each of 25 commands", () -> {
+            for (String text : wrong) {
+                int offset = text.charAt(0) - '0';
+                for (int place = 0; place < 25; place++) {
+                    ColdChain chain = scripted("w1;".repeat(place) + text.substring(1));
+                    Checks.due(text + " at " + place, chain.runScript(), -200000 - 3 * place - offset);
+                    Checks.due("count(2)", chain.count(2), 0);
+                }
+            }
+        });
+    }
+
+    private static void loads() {
+        Edge edge = new Edge("Promise 7");
+        for (int number = 0; number < 9; number++) {
+            int van = number / 3;
+            int zone = number % 3;
+            edge.test("INVALID_ARGUMENT if there is no such van or an argument is out of range",
+                "zone " + zone + " of van " + van + ", open, closed and full", () -> {
+                    ColdChain chain = PalletEdges.threeOpen();
+                    loadRefused(chain, van, zone);
+                    for (int k = 0; k < 3; k++) {
+                        Checks.due("loadPallet", chain.loadPallet(van, zone, -300, 600, 9999), k);
+                    }
+                    loadRefused(chain, van, zone);
+                    Checks.due("full", chain.loadPallet(van, zone, 0, 0, 0), Look.FULL);
+                    chain.door(van, 0);
+                    loadRefused(chain, van, zone);
+                    Checks.due("closed", chain.loadPallet(van, zone, 0, 0, 0), Look.ILLEGAL);
+                    Checks.due("count(1)", chain.count(1), 3);
+                });
+        }
+    }
+
+    private static void loadRefused(ColdChain chain, int van, int zone) {
+        int[][] wrong = {{-301, 0, 0}, {301, 0, 0}, {0, -1, 0}, {0, 601, 0}, {0, 0, -1}, {0, 0, 10000}};
+        for (int[] row : wrong) {
+            Checks.due("loadPallet", chain.loadPallet(van, zone, row[0], row[1], row[2]), Look.INVALID);
+        }
     }
 
     private static ColdChain ran(String text, int place) {

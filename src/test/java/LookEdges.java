@@ -510,8 +510,9 @@ final class LookEdges {
 
     private static void longestOpen() {
         Edge edge = new Edge("Promise 23");
-        edge.test("Finds for how many minutes the door of a van may be open from now on", "0, 1, 59, 60 and more", () -> {
-            for (int allowance : new int[] {0, 1, 2, 59, 60, 61, 600}) {
+        edge.test("Finds for how many minutes the door of a van may be open from now on", "each from 0 to 60, and more", () -> {
+            for (int minutes = 0; minutes <= 62; minutes++) {
+                int allowance = minutes == 62 ? 600 : minutes;
                 int due = Math.min(allowance, 60);
                 Checks.due("allowance " + allowance, quick(allowance).longestOpen(0), due);
                 ColdChain closed = quick(allowance);

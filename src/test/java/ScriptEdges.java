@@ -132,6 +132,15 @@ final class ScriptEdges {
             errs("r.1;", 1);
             errs("r0.;", 3);
         });
+        edge.test(words, "each number from 0 to 999", () -> {
+            for (int number = 0; number <= 999; number++) {
+                ColdChain chain = new ColdChain();
+                int answer = Look.script(chain, "w" + number + ";");
+                boolean passes = number >= 1 && number <= 300;
+                Checks.due("w" + number + ";", answer, passes ? 1 : -300000);
+                Checks.due("count(2)", chain.count(2), passes ? number : 0);
+            }
+        });
         edge.test(words, "four digits, in each number", () -> {
             errs("w1000;", 1);
             errs("o1000;", 1);

@@ -187,12 +187,20 @@ final class VanEdges {
         });
     }
 
+    /** What the probes read makes no difference to the temperatures. */
+    private static void otherProbes(ColdChain chain) {
+        chain.setNumber(2, 1);
+        chain.setProbe(0, 1, 1, 200);
+        chain.setProbe(0, 2, 2, -300);
+    }
+
     /** Neither the set point nor the cooling counts while the door is open. */
     private static void openMinute(int temperature, int outside, String due) {
         for (int setPoint : new int[] {temperature, -300, 100}) {
             ColdChain chain = Look.withOpenVan(temperature, 30);
             chain.setVan(0, setPoint, 30);
             chain.setNumber(0, outside);
+            otherProbes(chain);
             chain.pass(1);
             zonesAre(temperature + " with " + outside + " outside", chain, 0, due);
         }
@@ -230,6 +238,7 @@ final class VanEdges {
     private static void closedMinute(int setPoint, int cooling, int due) {
         ColdChain chain = Look.withVan(10, 3);
         chain.setVan(0, setPoint, cooling);
+        otherProbes(chain);
         chain.pass(1);
         zonesAre("10 to " + setPoint + " by " + cooling, chain, 0, due + " " + due + " " + due);
     }

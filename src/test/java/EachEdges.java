@@ -79,6 +79,23 @@ final class EachEdges {
         Edge ahead = new Edge("Promise 23");
         for (int number = 0; number < 3; number++) {
             int van = number;
+            ahead.test("no pallet that is in the van", "of van " + van + ", where those of the two others are overdue", () -> {
+                for (int due = 0; due <= 2; due++) {
+                    ColdChain chain = new ColdChain();
+                    chain.setNumber(0, 34);
+                    for (int other = 0; other < 3; other++) {
+                        chain.addVan(0, 30);
+                        chain.door(other, 1);
+                        chain.loadPallet(other, 0, other == van ? 300 : -1, 0, 0);
+                    }
+                    chain.pass(1);
+                    chain.loadPallet(van, 1, 0, due, 0);
+                    Checks.due("longestOpen(" + van + ")", chain.longestOpen(van), due);
+                }
+            });
+        }
+        for (int number = 0; number < 3; number++) {
+            int van = number;
             ahead.test("NONE if there is none", "van " + van + " alone", () -> {
                 ColdChain chain = PalletEdges.threeOpen();
                 chain.loadPallet(van, 1, -300, 59, 0);

@@ -107,7 +107,7 @@ final class UndoEdges {
         });
     }
 
-    /** Three open vans, with all nine probes found, and eleven pallets, each with warm minutes. */
+    /** Three open vans with all nine probes found, and eleven pallets: 4 open minutes, 2 closed ones, 5 told ones. */
     private static ColdChain loaded() {
         ColdChain chain = PalletEdges.threeOpen();
         chain.setNumber(2, 1);
@@ -124,7 +124,28 @@ final class UndoEdges {
             }
         }
         Checks.due("found probes", chain.count(8), 9);
+        allProbes(chain, 2, -300);
+        chain.pass(1);
+        allProbes(chain, 0, 0);
+        allDoors(chain, 0);
+        chain.pass(2);
+        allDoors(chain, 1);
+        Checks.due("open minutes", chain.pallet(10, 6), 4);
+        Checks.due("closed minutes", chain.pallet(10, 7), 2);
+        Checks.due("told minutes", chain.pallet(10, 8), 5);
         return chain;
+    }
+
+    private static void allProbes(ColdChain chain, int mode, int value) {
+        for (int number = 0; number < 9; number++) {
+            chain.setProbe(number / 3, number % 3, mode, value);
+        }
+    }
+
+    private static void allDoors(ColdChain chain, int open) {
+        for (int van = 0; van < 3; van++) {
+            chain.door(van, open);
+        }
     }
 
     /** The edit changes what can be seen, and an undo brings all of it back. */

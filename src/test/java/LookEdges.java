@@ -16,6 +16,7 @@ final class LookEdges {
         warmRows();
         warmEntries();
         minutesLeft();
+        aheadAsTold();
         eachAhead();
         longestOpen();
         longestOpenPallets();
@@ -469,6 +470,45 @@ final class LookEdges {
         chain.setNumber(0, 34);
         chain.loadPallet(0, 0, 0, allowance, 0);
         return chain;
+    }
+
+    /** A pallet in the zone 1, with a limit of 0, where it is 5 and the probe reads so much more. */
+    private static ColdChain misread(int shift, int allowance) {
+        ColdChain chain = Look.withOpenVan(5, 0);
+        chain.setNumber(0, 5);
+        chain.loadPallet(0, 1, 0, allowance, 0);
+        chain.setProbe(0, 1, 1, shift);
+        return chain;
+    }
+
+    private static void aheadAsTold() {
+        Edge left = new Edge("Promise 22");
+        left.test("Tells after how many minutes a pallet would be rejected", "by told minutes, not by warm ones", () -> {
+            Checks.due("warm and told", misread(0, 3).minutesLeft(0), 4);
+            Checks.due("warm alone", misread(-5, 3).minutesLeft(0), Look.NONE);
+            ColdChain chain = misread(-5, 3);
+            chain.pass(9);
+            Checks.due("more warm minutes than allowed", chain.minutesLeft(0), Look.NONE);
+        });
+        Edge open = new Edge("Promise 23");
+        String words = "no pallet that is in the van has more told minutes than its allowance";
+        open.test(words, "told ones, not warm ones", () -> {
+            Checks.due("warm and told", misread(0, 3).longestOpen(0), Look.NONE);
+            Checks.due("warm alone", misread(-5, 3).longestOpen(0), 60);
+            ColdChain chain = misread(-5, 3);
+            chain.pass(9);
+            Checks.due("more warm minutes than allowed", chain.longestOpen(0), 60);
+        });
+        open.test(words, "told ones alone, of a probe that is found on the way", () -> {
+            for (int allowance = 1; allowance <= 2; allowance++) {
+                ColdChain chain = Look.withOpenVan(0, 0);
+                chain.setNumber(0, 0);
+                chain.loadPallet(0, 1, 0, allowance, 0);
+                chain.setProbe(0, 1, 2, 400);
+                Checks.due("allowance " + allowance, chain.longestOpen(0), allowance == 2 ? 60 : Look.NONE);
+                Checks.due("count(8)", chain.count(8), 0);
+            }
+        });
     }
 
     private static void eachAhead() {

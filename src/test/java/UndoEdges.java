@@ -384,6 +384,23 @@ final class UndoEdges {
                 Checks.isTrue(left + " are left", Edge.numbers(story(left)).equals(Edge.numbers(chain)));
             }
         });
+        edge.test("Restores the most recently saved state and discards it", "its own, with another object beside it", () -> {
+            ColdChain one = new ColdChain();
+            ColdChain other = new ColdChain();
+            for (int k = 1; k <= 9; k++) {
+                one.setNumber(0, k);
+                other.setNumber(0, 100 + k);
+                Look.type(k % 2 == 0 ? one : other, "w1");
+            }
+            for (int k = 8; k >= 3; k--) {
+                Checks.due("undo() of the other", other.undo(), k - 3);
+                Checks.due("count(3) of the other", other.count(3), 100 + k);
+                Checks.due("undo()", one.undo(), k - 3);
+                Checks.due("count(3)", one.count(3), k);
+            }
+            Checks.due("the text", one.clearText(), 8);
+            Checks.due("the text of the other", other.clearText(), 10);
+        });
         edge.test("Returns the number of states that are still saved", "5 to 0", () -> {
             ColdChain chain = edited(20);
             for (int left = 5; left >= 0; left--) {

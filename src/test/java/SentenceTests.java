@@ -11,7 +11,7 @@ import java.util.Map;
  * the document is without a test. What stands behind "Returns" is taken part by part.
  */
 final class SentenceTests {
-    /** Beginnings of what there is nothing to test of. */
+    /** Beginnings of what an edge cannot test; RuleTests look at the types, the face and its headings. */
     private static final String[] UNTESTED = {"Vans of a cold chain: zones", "All numbers are whole",
         "Temperatures are told in tenths", "Ahead of the calls `addVan`", "Ahead of the calls `loadPallet`",
         "Ahead of the calls `appendCharacter`", "Ahead of the calls `count`"};

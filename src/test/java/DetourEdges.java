@@ -114,7 +114,9 @@ final class DetourEdges {
                     due.append(k == 0 ? "" : " ").append(50 / number + (k < 50 % number ? 1 : 0));
                 }
                 shares(rejected(alike(number, 7)), (1 << number) - 1, 50, due.toString());
-                shares(rejected(alike(number, 0)), (1 << number) - 1, 50, due.toString());
+                ColdChain worthless = rejected(alike(number, 0));
+                worthless.setNumber(0, -number);
+                shares(worthless, (1 << number) - 1, 50, due.toString());
             }
         });
         edge.test("A detour brings rejected pallets back together", "each two of twelve", () -> {

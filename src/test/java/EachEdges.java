@@ -90,7 +90,13 @@ final class EachEdges {
                     }
                     chain.pass(1);
                     chain.loadPallet(van, 1, 0, due, 0);
-                    Checks.due("longestOpen(" + van + ")", chain.longestOpen(van), due);
+                    for (int k = 0; k < 6; k++) {
+                        chain.setNumber(0, 34);
+                    }
+                    for (int left = 6; left >= 0; left--) {
+                        Checks.due("longestOpen(" + van + ")", chain.longestOpen(van), due);
+                        chain.undo();
+                    }
                 }
             });
         }

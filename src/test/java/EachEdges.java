@@ -16,6 +16,7 @@ final class EachEdges {
         commands();
         errors();
         loads();
+        times();
         noSuchVan();
         noSuchZone();
         noSuchPallet();
@@ -332,6 +333,75 @@ final class EachEdges {
             Checks.due("log", chain.log(van, zone, 1, told), Look.INVALID);
             Checks.due("warm", chain.warm(van, zone, 0, 0, 1, told), Look.INVALID);
         }
+    }
+
+    private static void times() {
+        Edge edge = new Edge("Terms");
+        edge.test("it is 0 at first and at most 600", "at each time all calls but pass() and log() answer alike", () -> {
+            String due = story(late(1, 0));
+            for (int time : new int[] {2, 299, 300, 301, 599, 600}) {
+                ColdChain chain = late(time, 0);
+                Checks.due("count(2)", chain.count(2), time);
+                Checks.isTrue("at " + time, due.equals(story(chain)));
+            }
+        });
+        Edge text = new Edge("Script");
+        text.test("Work can be told by a text of at most 80 characters", "with each length all other calls answer alike", () -> {
+            String due = story(late(1, 0));
+            for (int length : new int[] {1, 2, 79, 80}) {
+                ColdChain chain = late(1, length);
+                Checks.due("count(6)", chain.count(6), length);
+                Checks.isTrue("with " + length, due.equals(story(chain)));
+                Checks.due("clearText()", chain.clearText(), length);
+            }
+        });
+    }
+
+    /** Two vans that stay at 0, open and closed, with three pallets of which two are overdue. */
+    private static ColdChain late(int time, int length) {
+        ColdChain chain = new ColdChain();
+        chain.setNumber(0, 0);
+        chain.addVan(0, 5);
+        chain.addVan(0, 5);
+        Edge.pass(chain, time - 1);
+        chain.door(0, 1);
+        chain.loadPallet(0, 0, -300, 0, 11);
+        chain.loadPallet(0, 1, -300, 0, 22);
+        chain.loadPallet(0, 2, 300, 0, 33);
+        chain.setProbe(0, 2, 1, 40);
+        chain.setNumber(2, 1);
+        chain.pass(1);
+        Look.type(chain, "q".repeat(length));
+        return chain;
+    }
+
+    /** What some 150 calls answer, of all kinds but pass() and log(). */
+    private static String story(ColdChain chain) {
+        Edge.Call[] calls = {c -> c.minutesLeft(0), c -> c.minutesLeft(1), c -> c.minutesLeft(2), c -> c.longestOpen(0),
+            c -> c.longestOpen(1), c -> c.repair(0, 2), c -> c.setProbe(0, 2, 2, 7), c -> c.setNumber(1, 50), c -> c.undo(),
+            c -> c.setVan(0, -9, 9), c -> c.setNumber(2, 5), c -> c.setNumber(0, -7), c -> c.deliver(0), c -> c.deliver(1),
+            c -> c.door(0, 0), c -> c.deliver(2), c -> c.loadPallet(0, 0, 0, 0, 0), c -> c.door(0, 1), c -> c.door(0, 1),
+            c -> c.loadPallet(0, 0, 1, 2, 3), c -> c.detour(3, 17), c -> c.detour(3, 17), c -> c.detour(4, 0), c -> c.undo(),
+            c -> c.detour(2, 17), c -> c.addVan(8, 8), c -> c.addVan(8, 8), c -> c.addVan(101, 8), c -> c.deliver(9),
+            c -> c.zone(3, 0, 0), c -> c.zone(0, 0, 6), c -> c.van(0, 4), c -> c.van(3, 0), c -> c.pallet(9, 0),
+            c -> c.pallet(0, 11), c -> c.claims(4), c -> c.count(9), c -> c.warm(0, 0, 301, 0, 1, 0), c -> c.log(0, 0, 0, 0),
+            c -> c.longestOpen(2), c -> c.minutesLeft(3), c -> c.count(7)};
+        StringBuilder told = new StringBuilder();
+        for (Edge.Call call : calls) {
+            told.append(call.on(chain)).append(' ');
+        }
+        for (int what = 0; what < 66; what++) {
+            told.append(chain.zone(what / 6 % 3, what / 18 % 3, what % 6)).append(' ');
+            told.append(chain.pallet(what / 11 % 4, what % 11)).append(' ');
+        }
+        for (int what = 0; what < 12; what++) {
+            told.append(chain.van(what / 4, what % 4)).append(' ').append(chain.claims(what % 4)).append(' ');
+            told.append(what == 2 || what == 6 ? 0 : chain.count(what)).append(' ');
+        }
+        for (int left = 5; left >= -1; left--) {
+            told.append(chain.undo()).append(' ').append(chain.count(7)).append(' ');
+        }
+        return told.toString();
     }
 
     private static void noSuchVan() {

@@ -345,6 +345,25 @@ final class EachEdges {
                 Checks.isTrue("at " + time, due.equals(story(chain)));
             }
         });
+        edge.test("it is 0 at first and at most 600", "at each time scripts without \"w\" and looks ahead answer alike", () -> {
+            for (int time : new int[] {1, 2, 299, 300, 301, 599, 600}) {
+                ColdChain chain = late(time, 0);
+                Checks.due("an error", Look.script(chain, "o1;q"), -200003);
+                Checks.due("count(6)", chain.count(6), 4);
+                Checks.due("open already", Look.script(chain, "c0;o1;o1;"), -300002);
+                Checks.due("clearText()", chain.clearText(), 9);
+                Checks.due("four commands", Look.script(chain, "o1;d0;d2;r0.2;"), 4);
+                Checks.due("count(6)", chain.count(6), 0);
+                Checks.due("pallet(0, 5)", chain.pallet(0, 5), 2);
+                Checks.due("van(1, 2)", chain.van(1, 2), 1);
+                chain.setNumber(0, 34);
+                chain.setVan(1, 0, 30);
+                chain.loadPallet(1, 0, 0, 9, 0);
+                Checks.due("minutesLeft(3)", chain.minutesLeft(3), 10);
+                Checks.due("longestOpen(1)", chain.longestOpen(1), 9);
+                Checks.due("longestOpen(0)", chain.longestOpen(0), Look.NONE);
+            }
+        });
         Edge text = new Edge("Script");
         text.test("Work can be told by a text of at most 80 characters", "with each length all other calls answer alike", () -> {
             String due = story(late(1, 0));
